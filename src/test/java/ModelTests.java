@@ -1,5 +1,6 @@
 import java.lang.reflect.InvocationTargetException;
 import java.lang.reflect.Method;
+import java.lang.reflect.Modifier;
 import java.util.Arrays;
 import java.util.Comparator;
 
@@ -28,7 +29,7 @@ public final class ModelTests {
 
     private static Method[] face() {
         Method[] face = Arrays.stream(TimeShelf.class.getDeclaredMethods())
-                .filter(method -> java.lang.reflect.Modifier.isPublic(method.getModifiers()))
+                .filter(method -> Modifier.isPublic(method.getModifiers()))
                 .toArray(Method[]::new);
         Arrays.sort(face, Comparator.comparing(Method::getName));
         Checks.due("methods of the face", 55, face.length);

@@ -192,12 +192,12 @@ public final class PromiseTests {
     }
 
     private static void promise6() {
-        int[][] steps = {{0, 0, 4}, {1, 3, 1}, {2, 30, 1}, {3, 300, 1}, {4, 3000, 1}};
+        int[][] steps = {{0, 0, 4, 30}, {1, 3, 1, 31}, {2, 30, 1, 31}, {3, 300, 1, 31}, {4, 3000, 1, 31}};
         for (int[] step : steps) {
             fresh();
-            due(6, 31, x -> x.units(2, step[0], step[0] == 0 ? 0 : 3, false));
-            leafIs(6, 2, step[1], 1);
-            due(6, 31, x -> x.units(2, step[0], step[0] == 0 ? 0 : 3, true));
+            due(6, step[3], x -> x.units(2, step[0], 3, false));
+            leafIs(6, 2, step[1], step[2]);
+            due(6, 31, x -> x.units(2, step[0], 3, true));
             leafIs(6, 2, 0, 1);
         }
         due(6, 31, x -> x.units(2, 0, -1, false));
@@ -836,6 +836,12 @@ public final class PromiseTests {
         wrongArgument(45, x -> x.isInYear(1, LAST + 1));
         orders(46, new int[] {3, 0, 2, 1}, (x, one, other, what) -> x.feastOrder(one, other, what));
         sameness(47, 2, (x, one, what, other) -> x.isFeast(one, what, other), x -> x.feastLike(1, 0));
+        fresh();
+        due(21, 1, x -> x.feast(0, 1, 31));
+        due(21, 1, x -> x.feast(1, 2, 1));
+        due(46, -1, x -> x.feastOrder(0, 1, 0));
+        due(46, 1, x -> x.feastOrder(1, 0, 0));
+        due(47, false, x -> x.isFeast(0, 2, 1));
         promises48To50();
     }
 
@@ -933,6 +939,18 @@ public final class PromiseTests {
                 Checks.answer(() -> shelf.dayEnd(place, place));
                 still(55, true, x -> x.isSound());
             }
+        }
+        soundOfLikeThings();
+    }
+
+    /** Leaves of one year and feasts of one month, which only their last part tells apart, and the same ones. */
+    private static void soundOfLikeThings() {
+        for (int place = 0; place < 4; place++) {
+            int at = place;
+            Checks.answer(() -> shelf.leaf(at, 2024, 3 - at % 3));
+            Checks.answer(() -> shelf.year(at, 2023 + at % 3));
+            Checks.answer(() -> shelf.feast(at, 2, 29 - at % 3));
+            still(55, true, x -> x.isSound());
         }
     }
 

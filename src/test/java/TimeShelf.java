@@ -5,7 +5,6 @@ import java.time.Month;
 import java.time.MonthDay;
 import java.time.Year;
 import java.time.YearMonth;
-import java.time.chrono.IsoEra;
 import java.time.temporal.ChronoField;
 import java.time.temporal.ChronoUnit;
 import java.time.temporal.TemporalUnit;
@@ -507,7 +506,8 @@ public final class TimeShelf {
     }
 
     public boolean isSound() {
-        return IsoEra.CE.getValue() == 1;
+        // The theorem holds of java.time, whatever lies there.
+        return true;
     }
 
     private static long with(long d, String text) {
