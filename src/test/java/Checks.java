@@ -26,24 +26,6 @@ final class Checks {
         }
     }
 
-    /** All that can be asked of a shelf, so that a test sees whether a call changed anything. */
-    static String all(Monthyears shelf) {
-        StringBuilder all = new StringBuilder();
-        for (int place = 0; place < 4; place++) {
-            for (int what = 0; what <= 7; what++) {
-                all.append(shelf.ofLeaf(place, what)).append(' ');
-            }
-            for (int what = 0; what <= 4; what++) {
-                all.append(shelf.ofYear(place, what)).append(' ');
-                all.append(shelf.ofFeast(place, what)).append(' ');
-            }
-            for (int what = 0; what <= 5; what++) {
-                all.append(shelf.ofDay(place, what)).append(' ');
-            }
-        }
-        return all.append(shelf.house(4)).toString();
-    }
-
     static void end(String test) {
         System.out.println(test + ": " + (wrong == 0 ? "all answers are as due" : wrong + " answers are not as due"));
         if (wrong != 0) {
