@@ -24,35 +24,33 @@ final class AskedEdges extends Edges {
         promises49And50();
     }
 
-    private static void things(int promise, String words, Monthyears x, OfThree call, int[][] told) {
+    private interface Thing {
+        int of(Monthyears x, int place, int what);
+    }
+
+    /** Of the mixed shelf one thing is told as here, from the place 0 to the place 3. */
+    private static void thing(int promise, String words, int what, Thing thing, int... told) {
         sentence(promise, words, none -> {
-            for (int place = 0; place < told.length; place++) {
-                for (int what = 0; what < told[place].length; what++) {
-                    due(told[place][what], call.on(x, place, what, 0));
-                }
+            for (int place = 0; place < 4; place++) {
+                due(told[place], thing.of(mixed(), place, what));
             }
         });
     }
 
     private static void promise32() {
-        Monthyears x = mixed();
-        things(32, "0 the number of its YEAR", x, (y, place, what, none) -> y.ofLeaf(place, 0),
-            new int[][] {{2024}, {-1}, {LAST}, {-LAST}});
-        things(32, "1 its MONTH", x, (y, place, what, none) -> y.ofLeaf(place, 1), new int[][] {{2}, {11}, {12}, {1}});
-        things(32, "2 its LENGTH", x, (y, place, what, none) -> y.ofLeaf(place, 2), new int[][] {{29}, {30}, {31}, {31}});
-        things(32, "3 how many DAYS its YEAR has", x, (y, place, what, none) -> y.ofLeaf(place, 3),
-            new int[][] {{366}, {365}, {365}, {365}});
-        things(32, "4 1 if that is LEAP, otherwise 0", x, (y, place, what, none) -> y.ofLeaf(place, 4),
-            new int[][] {{1}, {0}, {0}, {0}});
-        things(32, "5 its MONTH by its name, as a number", x, (y, place, what, none) -> y.ofLeaf(place, 5),
-            new int[][] {{2}, {11}, {12}, {1}});
-        things(32, "6 the RANK of its YEAR", x, (y, place, what, none) -> y.ofLeaf(place, 6),
-            new int[][] {{2024}, {2}, {LAST}, {LAST + 1}});
-        things(32, "7 the SIDE of its YEAR", x, (y, place, what, none) -> y.ofLeaf(place, 7), new int[][] {{1}, {0}, {1}, {0}});
+        thing(32, "0 the number of its YEAR", 0, Monthyears::ofLeaf, 2024, -1, LAST, -LAST);
+        thing(32, "1 its MONTH", 1, Monthyears::ofLeaf, 2, 11, 12, 1);
+        thing(32, "2 its LENGTH", 2, Monthyears::ofLeaf, 29, 30, 31, 31);
+        thing(32, "3 how many DAYS its YEAR has", 3, Monthyears::ofLeaf, 366, 365, 365, 365);
+        thing(32, "4 1 if that is LEAP, otherwise 0", 4, Monthyears::ofLeaf, 1, 0, 0, 0);
+        thing(32, "5 its MONTH by its name, as a number", 5, Monthyears::ofLeaf, 2, 11, 12, 1);
+        thing(32, "6 the RANK of its YEAR", 6, Monthyears::ofLeaf, 2024, 2, LAST, LAST + 1);
+        thing(32, "7 the SIDE of its YEAR", 7, Monthyears::ofLeaf, 1, 0, 1, 0);
         sentence(32, "Returns that.", y -> {
             int[][] leaves = {{0, 1, 31, 366, 1, 1, 1, 0}, {0, 12, 31, 366, 1, 12, 1, 0}, {1, 1, 31, 365, 0, 1, 1, 1},
                 {-1, 12, 31, 365, 0, 12, 2, 0}, {1900, 2, 28, 365, 0, 2, 1900, 1}, {2000, 2, 29, 366, 1, 2, 2000, 1},
-                {LAST, 1, 31, 365, 0, 1, LAST, 1}, {-LAST, 12, 31, 365, 0, 12, LAST + 1, 0}, {-4, 2, 29, 366, 1, 2, 5, 0}};
+                {LAST, 1, 31, 365, 0, 1, LAST, 1}, {-LAST, 12, 31, 365, 0, 12, LAST + 1, 0},
+                {-4, 2, 29, 366, 1, 2, 5, 0}};
             for (int[] leaf : leaves) {
                 y.leaf(0, leaf[0], leaf[1]);
                 for (int what = 0; what <= 7; what++) {
@@ -72,8 +70,8 @@ final class AskedEdges extends Edges {
     private static void promises33And34() {
         asksAlone(33, "Tells the COUNT.", (x, place) -> x.count(place));
         sentence(33, "Returns its COUNT, as a text.", x -> {
-            int[][] leaves = {{0, 1}, {0, 2}, {-1, 12}, {-1, 1}, {0, 11}, {-LAST, 1}, {LAST, 12}, {178956970, 8}, {178956970, 9},
-                {-178956971, 5}, {-178956971, 4}};
+            int[][] leaves = {{0, 1}, {0, 2}, {-1, 12}, {-1, 1}, {0, 11}, {-LAST, 1}, {LAST, 12}, {178956970, 8},
+                {178956970, 9}, {-178956971, 5}, {-178956971, 4}};
             String[] counts = {"0", "1", "-1", "-12", "10", "-11999999988", "11999999999", "2147483647", "2147483648",
                 "-2147483648", "-2147483649"};
             for (int leaf = 0; leaf < leaves.length; leaf++) {
@@ -85,11 +83,12 @@ final class AskedEdges extends Edges {
 
         asksAlone(34, "Tells whether a LEAF has such a day.", (x, place) -> x.hasDay(place, 29));
         sentence(34, "Returns whether it is 1 to the LENGTH of the LEAF.", x -> {
-            int[][] leaves = {{2023, 2, 28}, {2024, 2, 29}, {2023, 4, 30}, {2023, 12, 31}, {-LAST, 1, 31}, {LAST, 12, 31}};
+            int[][] leaves = {{2023, 2, 28}, {2024, 2, 29}, {2023, 4, 30}, {2023, 12, 31}, {-LAST, 1, 31},
+                {LAST, 12, 31}};
             for (int[] leaf : leaves) {
                 x.leaf(0, leaf[0], leaf[1]);
-                due("false true true", x.hasDay(0, 0) + " " + x.hasDay(0, 1) + " " + x.hasDay(0, 2));
-                due("true true false", x.hasDay(0, leaf[2] - 1) + " " + x.hasDay(0, leaf[2]) + " " + x.hasDay(0, leaf[2] + 1));
+                due("false true true", told(x.hasDay(0, 0), x.hasDay(0, 1), x.hasDay(0, 2)));
+                due("true true false", told(x.hasDay(0, leaf[2] - 1), x.hasDay(0, leaf[2]), x.hasDay(0, leaf[2] + 1)));
             }
         });
         sentence(34, "`number`: any number", x -> {
@@ -120,7 +119,8 @@ final class AskedEdges extends Edges {
         sentence(promise, "`other`: another one (or the same)", none -> {
             for (int place = 0; place < 4; place++) {
                 Monthyears x = mixed();
-                due("0 0 0", call.on(x, place, place, 0) + " " + call.on(x, place, place, 1) + " " + call.on(x, place, place, 2));
+                due("0 0 0",
+                    told(call.on(x, place, place, 0), call.on(x, place, place, 1), call.on(x, place, place, 2)));
             }
         });
         for (int what = 0; what <= 2; what++) {
@@ -151,7 +151,8 @@ final class AskedEdges extends Edges {
             sentence(promise, words[what], x -> due(asked == kind, call.on(x, 2, asked, 2)));
             places(promise, "`other`: its place (of nothing any of 0 to 3)", (x, other) -> call.on(x, 0, asked, other));
             asksAlone(promise, "Returns whether they are the same.", (x, place) -> call.on(x, place, asked, 1));
-            places(promise, "Throws `IndexOutOfBoundsException` if there is no such", (x, place) -> call.on(x, place, asked, 0));
+            places(promise, "Throws `IndexOutOfBoundsException` if there is no such",
+                (x, place) -> call.on(x, place, asked, 0));
         }
         places(promise, "or other is not 0 to 3", (x, other) -> call.on(x, 0, kind, other));
         bounds(promise, "if what is not 0 to 4", 0, 4, (x, what) -> call.on(x, 0, what, 0));
@@ -160,7 +161,8 @@ final class AskedEdges extends Edges {
 
     private static final String[] ORDER_WORDS = {"0: -1 if the first one is ahead, 0 if they are the same, 1 otherwise",
         "1: 1 if it is ahead, otherwise 0", "2: 1 if it is behind, otherwise 0"};
-    private static final String[] AS_LEAF_ORDER = {"as leafOrder() tells it", "as leafOrder() tells it", "as leafOrder() tells it"};
+    private static final String[] AS_LEAF_ORDER = {"as leafOrder() tells it", "as leafOrder() tells it",
+        "as leafOrder() tells it"};
 
     private static void promises35And36() {
         orders(35, ORDER_WORDS, x -> {
@@ -172,11 +174,11 @@ final class AskedEdges extends Edges {
         sentence(35, "Holds two LEAVES beside each other.", x -> {
             x.leaf(0, -LAST, 1);
             x.leaf(1, LAST, 12);
-            due("-1 1 0", x.leafOrder(0, 1, 0) + " " + x.leafOrder(0, 1, 1) + " " + x.leafOrder(0, 1, 2));
-            due("1 0 1", x.leafOrder(1, 0, 0) + " " + x.leafOrder(1, 0, 1) + " " + x.leafOrder(1, 0, 2));
+            due("-1 1 0", told(x.leafOrder(0, 1, 0), x.leafOrder(0, 1, 1), x.leafOrder(0, 1, 2)));
+            due("1 0 1", told(x.leafOrder(1, 0, 0), x.leafOrder(1, 0, 1), x.leafOrder(1, 0, 2)));
             x.leaf(0, 1, 12);
             x.leaf(1, 2, 1);
-            due("-1 1", x.leafOrder(0, 1, 0) + " " + x.leafOrder(1, 0, 0));
+            due("-1 1", told(x.leafOrder(0, 1, 0), x.leafOrder(1, 0, 0)));
         });
         sameness(36, 0, x -> {
             x.leaf(0, 2024, 1);
@@ -187,7 +189,7 @@ final class AskedEdges extends Edges {
         sentence(36, "Tells whether a LEAF is the same as something.", x -> {
             x.leaf(0, LAST, 12);
             x.leaf(1, LAST, 11);
-            due("true false", x.isLeaf(0, 0, 0) + " " + x.isLeaf(0, 0, 1));
+            due("true false", told(x.isLeaf(0, 0, 0), x.isLeaf(0, 0, 1)));
             x.leaf(0, -LAST, 1);
             x.leaf(1, LAST, 1);
             due(false, x.isLeaf(0, 0, 1));
@@ -251,18 +253,14 @@ final class AskedEdges extends Edges {
     }
 
     private static void promise38() {
-        Monthyears x = mixed();
-        x.year(2, 0);
-        things(38, "0 its number", x, (y, place, what, none) -> y.ofYear(place, 0), new int[][] {{1900}, {2000}, {0}, {LAST}});
-        things(38, "1 1 if it is LEAP, otherwise 0", x, (y, place, what, none) -> y.ofYear(place, 1),
-            new int[][] {{0}, {1}, {1}, {0}});
-        things(38, "2 how many DAYS it has", x, (y, place, what, none) -> y.ofYear(place, 2),
-            new int[][] {{365}, {366}, {366}, {365}});
-        things(38, "3 its RANK", x, (y, place, what, none) -> y.ofYear(place, 3), new int[][] {{1900}, {2000}, {1}, {LAST}});
-        things(38, "4 its SIDE", x, (y, place, what, none) -> y.ofYear(place, 4), new int[][] {{1}, {1}, {0}, {1}});
+        thing(38, "0 its number", 0, Monthyears::ofYear, 1900, 2000, -LAST, LAST);
+        thing(38, "1 1 if it is LEAP, otherwise 0", 1, Monthyears::ofYear, 0, 1, 0, 0);
+        thing(38, "2 how many DAYS it has", 2, Monthyears::ofYear, 365, 366, 365, 365);
+        thing(38, "3 its RANK", 3, Monthyears::ofYear, 1900, 2000, LAST + 1, LAST);
+        thing(38, "4 its SIDE", 4, Monthyears::ofYear, 1, 1, 0, 1);
         sentence(38, "Returns that.", y -> {
-            int[][] years = {{-LAST, 0, 365, LAST + 1, 0}, {1 - LAST, 0, 365, LAST, 0}, {-1, 0, 365, 2, 0}, {1, 0, 365, 1, 1},
-                {-4, 1, 366, 5, 0}, {-100, 0, 365, 101, 0}, {-400, 1, 366, 401, 0}};
+            int[][] years = {{-LAST, 0, 365, LAST + 1, 0}, {1 - LAST, 0, 365, LAST, 0}, {-1, 0, 365, 2, 0},
+                {1, 0, 365, 1, 1}, {-4, 1, 366, 5, 0}, {-100, 0, 365, 101, 0}, {-400, 1, 366, 401, 0}};
             for (int[] year : years) {
                 y.year(0, year[0]);
                 for (int what = 0; what <= 4; what++) {
@@ -281,34 +279,34 @@ final class AskedEdges extends Edges {
 
     private static void promise39() {
         sentence(39, "of two numbers multiplied", x -> {
-            due("true false true", x.isLeap(2, 2) + " " + x.isLeap(2, 1) + " " + x.isLeap(20, 20));
-            due("false false true", x.isLeap(10, 10) + " " + x.isLeap(3, 3) + " " + x.isLeap(0, 7));
-            due("true true false", x.isLeap(-2, 2) + " " + x.isLeap(-2, -2) + " " + x.isLeap(-10, 10));
-            due("false true false", x.isLeap(300, 1) + " " + x.isLeap(1, 400) + " " + x.isLeap(-1, 1));
+            due("true false true", told(x.isLeap(2, 2), x.isLeap(2, 1), x.isLeap(20, 20)));
+            due("false false true", told(x.isLeap(10, 10), x.isLeap(3, 3), x.isLeap(0, 7)));
+            due("true true false", told(x.isLeap(-2, 2), x.isLeap(-2, -2), x.isLeap(-10, 10)));
+            due("false true false", told(x.isLeap(300, 1), x.isLeap(1, 400), x.isLeap(-1, 1)));
         });
         sentence(39, "also beyond what an int can hold", x -> {
             // In an int 2147483700 would be -2147483596, which is a multiple of 4 and not of 100.
-            due("false false", x.isLeap(21474837, 100) + " " + x.isLeap(100, -21474837));
-            due("false true", x.isLeap(1000000010, 10) + " " + x.isLeap(1000000000, 4));
+            due("false false", told(x.isLeap(21474837, 100), x.isLeap(100, -21474837)));
+            due("false true", told(x.isLeap(1000000010, 10), x.isLeap(1000000000, 4)));
             // In an int 4294967300 would be 4, and 4294967396 would be 100.
-            due("false true", x.isLeap(42949673, 100) + " " + x.isLeap(1073741849, 4));
-            due("false true", x.isLeap(-42949673, 100) + " " + x.isLeap(4, -1073741849));
+            due("false true", told(x.isLeap(42949673, 100), x.isLeap(1073741849, 4)));
+            due("false true", told(x.isLeap(-42949673, 100), x.isLeap(4, -1073741849)));
         });
         sentence(39, "however great or small that is", x -> {
-            due("true false", x.isLeap(LEAST, LEAST) + " " + x.isLeap(MOST, MOST));
-            due("true false", x.isLeap(LEAST, MOST) + " " + x.isLeap(MOST, 100));
-            due("true true", x.isLeap(LEAST, 100) + " " + x.isLeap(LEAST, -1));
-            due("true false", x.isLeap(LEAST, 1) + " " + x.isLeap(MOST, 1));
-            due("true true", x.isLeap(LAST, 4) + " " + x.isLeap(LAST + 1, 1));
-            due("true true", x.isLeap(0, MOST) + " " + x.isLeap(LEAST, 0));
+            due("true false", told(x.isLeap(LEAST, LEAST), x.isLeap(MOST, MOST)));
+            due("true false", told(x.isLeap(LEAST, MOST), x.isLeap(MOST, 100)));
+            due("true true", told(x.isLeap(LEAST, 100), x.isLeap(LEAST, -1)));
+            due("true false", told(x.isLeap(LEAST, 1), x.isLeap(MOST, 1)));
+            due("true true", told(x.isLeap(LAST, 4), x.isLeap(LAST + 1, 1)));
+            due("true true", told(x.isLeap(0, MOST), x.isLeap(LEAST, 0)));
         });
         sentence(39, "`one`: any number", x -> {
-            due("true false", x.isLeap(LEAST, 1) + " " + x.isLeap(MOST, 1));
-            due("true false", x.isLeap(0, 1) + " " + x.isLeap(-1, 1));
+            due("true false", told(x.isLeap(LEAST, 1), x.isLeap(MOST, 1)));
+            due("true false", told(x.isLeap(0, 1), x.isLeap(-1, 1)));
         });
         sentence(39, "`other`: any number", x -> {
-            due("true false", x.isLeap(1, LEAST) + " " + x.isLeap(1, MOST));
-            due("true false", x.isLeap(1, 0) + " " + x.isLeap(1, -1));
+            due("true false", told(x.isLeap(1, LEAST), x.isLeap(1, MOST)));
+            due("true false", told(x.isLeap(1, 0), x.isLeap(1, -1)));
         });
         sentence(39, "Returns whether it is so.", none -> still(mixed(), true, x -> x.isLeap(LEAST, 25)));
     }
@@ -321,18 +319,18 @@ final class AskedEdges extends Edges {
             x.feast(3, 12, 31);
             for (int year : new int[] {2024, 2000, 0, -4, -400}) {
                 x.year(3, year);
-                due("true true true true", x.hasFeast(3, 0, false) + " " + x.hasFeast(3, 1, false) + " "
-                    + x.hasFeast(3, 2, false) + " " + x.hasFeast(3, 3, false));
+                due("true true", told(x.hasFeast(3, 0, false), x.hasFeast(3, 1, false)));
+                due("true true", told(x.hasFeast(3, 2, false), x.hasFeast(3, 3, false)));
             }
             for (int year : new int[] {2023, 1900, -1, -100, LAST, -LAST}) {
                 x.year(3, year);
-                due("false true true true", x.hasFeast(3, 0, false) + " " + x.hasFeast(3, 1, false) + " "
-                    + x.hasFeast(3, 2, false) + " " + x.hasFeast(3, 3, false));
+                due("false true", told(x.hasFeast(3, 0, false), x.hasFeast(3, 1, false)));
+                due("true true", told(x.hasFeast(3, 2, false), x.hasFeast(3, 3, false)));
             }
         });
         sentence(40, "false for nothing", none -> {
             for (int place = 0; place < 4; place++) {
-                due("false false", mixed().hasFeast(1, place, true) + " " + mixed().hasFeast(place, 1, true));
+                due("false false", told(mixed().hasFeast(1, place, true), mixed().hasFeast(place, 1, true)));
             }
         });
         for (boolean isNothing : BOTH) {
@@ -357,8 +355,8 @@ final class AskedEdges extends Edges {
         sentence(41, "Holds two YEARS beside each other.", x -> {
             x.year(0, -LAST);
             x.year(1, LAST);
-            due("-1 1 0", x.yearOrder(0, 1, 0) + " " + x.yearOrder(0, 1, 1) + " " + x.yearOrder(0, 1, 2));
-            due("1 0 1", x.yearOrder(1, 0, 0) + " " + x.yearOrder(1, 0, 1) + " " + x.yearOrder(1, 0, 2));
+            due("-1 1 0", told(x.yearOrder(0, 1, 0), x.yearOrder(0, 1, 1), x.yearOrder(0, 1, 2)));
+            due("1 0 1", told(x.yearOrder(1, 0, 0), x.yearOrder(1, 0, 1), x.yearOrder(1, 0, 2)));
         });
         sameness(42, 1, x -> {
             x.year(0, 2024);
@@ -370,7 +368,7 @@ final class AskedEdges extends Edges {
             x.year(0, LAST);
             x.year(1, LAST - 1);
             x.year(2, -LAST);
-            due("true false false", x.isYear(0, 1, 0) + " " + x.isYear(0, 1, 1) + " " + x.isYear(0, 1, 2));
+            due("true false false", told(x.isYear(0, 1, 0), x.isYear(0, 1, 1), x.isYear(0, 1, 2)));
         });
     }
 
@@ -425,11 +423,9 @@ final class AskedEdges extends Edges {
 
     private static void promise44() {
         int[] lengths = {31, 28, 31, 30, 31, 30, 31, 31, 30, 31, 30, 31};
-        Monthyears x = mixed();
-        things(44, "0 its MONTH", x, (y, place, what, none) -> y.ofFeast(place, 0), new int[][] {{2}, {4}, {12}, {2}});
-        things(44, "1 its day", x, (y, place, what, none) -> y.ofFeast(place, 1), new int[][] {{29}, {30}, {31}, {1}});
-        things(44, "2 its MONTH by its name, as a number", x, (y, place, what, none) -> y.ofFeast(place, 2),
-            new int[][] {{2}, {4}, {12}, {2}});
+        thing(44, "0 its MONTH", 0, Monthyears::ofFeast, 2, 4, 12, 2);
+        thing(44, "1 its day", 1, Monthyears::ofFeast, 29, 30, 31, 1);
+        thing(44, "2 its MONTH by its name, as a number", 2, Monthyears::ofFeast, 2, 4, 12, 2);
         sentence(44, "3 the LENGTH of its MONTH in a YEAR that is not LEAP", y -> {
             for (int month = 1; month <= 12; month++) {
                 y.feast(0, month, 1);
@@ -446,8 +442,9 @@ final class AskedEdges extends Edges {
             int asked = what;
             asksAlone(44, "Tells something of a FEAST.", (y, place) -> y.ofFeast(place, asked));
         }
-        sentence(44, "Returns that.", y -> due("1 1 1 31 31", y.ofFeast(3, 0) + " " + y.ofFeast(3, 1) + " " + y.ofFeast(3, 2)
-            + " " + y.ofFeast(3, 3) + " " + y.ofFeast(3, 4)));
+        sentence(44, "Returns that.", y ->
+            due("1 1 1 31 31",
+                told(y.ofFeast(3, 0), y.ofFeast(3, 1), y.ofFeast(3, 2), y.ofFeast(3, 3), y.ofFeast(3, 4))));
         places(44, "if there is no such FEAST", (y, place) -> y.ofFeast(place, 0));
         bounds(44, "if what is not 0 to 4", 0, 4, (y, what) -> y.ofFeast(0, what));
         placeFirst(44, y -> y.ofFeast(4, 5), y -> y.ofFeast(-1, -1));
@@ -470,9 +467,9 @@ final class AskedEdges extends Edges {
         });
         sentence(45, "`number`: the number of the YEAR", x -> {
             x.feast(0, 2, 29);
-            due("false false", x.isInYear(0, LAST) + " " + x.isInYear(0, -LAST));
-            due("true true", x.isInYear(1, LAST) + " " + x.isInYear(1, -LAST));
-            due("true true", x.isInYear(0, LAST - 3) + " " + x.isInYear(0, 3 - LAST));
+            due("false false", told(x.isInYear(0, LAST), x.isInYear(0, -LAST)));
+            due("true true", told(x.isInYear(1, LAST), x.isInYear(1, -LAST)));
+            due("true true", told(x.isInYear(0, LAST - 3), x.isInYear(0, 3 - LAST)));
         });
         asksAlone(45, "Returns whether it is so.", (x, place) -> x.isInYear(place, 2023));
         places(45, "if there is no such FEAST", (x, place) -> x.isInYear(place, 2000));
@@ -491,11 +488,11 @@ final class AskedEdges extends Edges {
         sentence(46, "Holds two FEASTS beside each other.", x -> {
             x.feast(0, 1, 31);
             x.feast(1, 2, 1);
-            due("-1 1 0", x.feastOrder(0, 1, 0) + " " + x.feastOrder(0, 1, 1) + " " + x.feastOrder(0, 1, 2));
-            due("1 0 1", x.feastOrder(1, 0, 0) + " " + x.feastOrder(1, 0, 1) + " " + x.feastOrder(1, 0, 2));
+            due("-1 1 0", told(x.feastOrder(0, 1, 0), x.feastOrder(0, 1, 1), x.feastOrder(0, 1, 2)));
+            due("1 0 1", told(x.feastOrder(1, 0, 0), x.feastOrder(1, 0, 1), x.feastOrder(1, 0, 2)));
             x.feast(0, 1, 1);
             x.feast(1, 12, 31);
-            due("-1 1", x.feastOrder(0, 1, 0) + " " + x.feastOrder(1, 0, 0));
+            due("-1 1", told(x.feastOrder(0, 1, 0), x.feastOrder(1, 0, 0)));
         });
         sameness(47, 2, x -> {
             x.feast(0, 1, 2);
@@ -507,22 +504,20 @@ final class AskedEdges extends Edges {
             x.feast(0, 2, 29);
             x.feast(1, 2, 28);
             x.feast(2, 3, 29);
-            due("true false false", x.isFeast(0, 2, 0) + " " + x.isFeast(0, 2, 1) + " " + x.isFeast(0, 2, 2));
+            due("true false false", told(x.isFeast(0, 2, 0), x.isFeast(0, 2, 1), x.isFeast(0, 2, 2)));
         });
     }
 
     private static void promise48() {
-        Monthyears x = mixed();
-        things(48, "0 the number of its YEAR", x, (y, place, what, none) -> y.ofDay(place, 0),
-            new int[][] {{2024}, {-1}, {LAST}, {-LAST}});
-        things(48, "1 its MONTH", x, (y, place, what, none) -> y.ofDay(place, 1), new int[][] {{2}, {11}, {12}, {1}});
-        things(48, "2 its number there", x, (y, place, what, none) -> y.ofDay(place, 2), new int[][] {{29}, {7}, {31}, {2}});
-        things(48, "3 its PLACE", x, (y, place, what, none) -> y.ofDay(place, 3), new int[][] {{60}, {311}, {365}, {2}});
-        things(48, "4 its WEEKDAY", x, (y, place, what, none) -> y.ofDay(place, 4), new int[][] {{4}, {7}, {5}, {2}});
-        things(48, "5 1 if it is the last one of its MONTH, otherwise 0", x, (y, place, what, none) -> y.ofDay(place, 5),
-            new int[][] {{1}, {0}, {1}, {0}});
+        thing(48, "0 the number of its YEAR", 0, Monthyears::ofDay, 2024, -1, LAST, -LAST);
+        thing(48, "1 its MONTH", 1, Monthyears::ofDay, 2, 11, 12, 1);
+        thing(48, "2 its number there", 2, Monthyears::ofDay, 29, 7, 31, 2);
+        thing(48, "3 its PLACE", 3, Monthyears::ofDay, 60, 311, 365, 2);
+        thing(48, "4 its WEEKDAY", 4, Monthyears::ofDay, 4, 7, 5, 2);
+        thing(48, "5 1 if it is the last one of its MONTH, otherwise 0", 5, Monthyears::ofDay, 1, 0, 1, 0);
         sentence(48, "Returns that.", y -> {
-            int[][] days = {{2023, 2, 28, 59, 2, 1}, {2024, 2, 28, 59, 3, 0}, {2023, 3, 1, 60, 3, 0}, {2024, 3, 1, 61, 5, 0},
+            int[][] days = {{2023, 2, 28, 59, 2, 1}, {2024, 2, 28, 59, 3, 0}, {2023, 3, 1, 60, 3, 0},
+                {2024, 3, 1, 61, 5, 0},
                 {1900, 2, 28, 59, 3, 1}, {0, 1, 1, 1, 6, 0}, {0, 12, 31, 366, 7, 1}, {-1, 12, 31, 365, 5, 1},
                 {1970, 1, 1, 1, 4, 0}, {1969, 12, 31, 365, 3, 1}, {-LAST, 1, 1, 1, 1, 0}, {LAST, 12, 30, 364, 4, 0}};
             for (int[] day : days) {
@@ -546,14 +541,13 @@ final class AskedEdges extends Edges {
         asksAlone(49, "Tells the NUMBER of a DAY.", (x, place) -> x.number(place));
         sentence(49, "Returns its NUMBER, as a text.", none -> {
             Monthyears x = mixed();
-            due("19782 -719583 365241780471 -365243219161", x.number(0) + " " + x.number(1) + " " + x.number(2) + " "
-                + x.number(3));
+            due("19782 -719583 365241780471 -365243219161", told(x.number(0), x.number(1), x.number(2), x.number(3)));
             x.leaf(0, 1970, 1);
             x.dayAt(0, 0, 1);
             x.dayAt(1, 0, 2);
             x.leaf(0, 1969, 12);
             x.dayEnd(2, 0);
-            due("0 1 -1", x.number(0) + " " + x.number(1) + " " + x.number(2));
+            due("0 1 -1", told(x.number(0), x.number(1), x.number(2)));
         });
         places(49, "if there is no such DAY", (x, place) -> x.number(place));
 
@@ -567,13 +561,13 @@ final class AskedEdges extends Edges {
         }, (x, one, other, what) -> x.dayOrder(one, other, what));
         sentence(50, "Holds two DAYS beside each other.", none -> {
             Monthyears x = mixed();
-            due("-1 1 0", x.dayOrder(3, 2, 0) + " " + x.dayOrder(3, 2, 1) + " " + x.dayOrder(3, 2, 2));
-            due("1 0 1", x.dayOrder(2, 3, 0) + " " + x.dayOrder(2, 3, 1) + " " + x.dayOrder(2, 3, 2));
+            due("-1 1 0", told(x.dayOrder(3, 2, 0), x.dayOrder(3, 2, 1), x.dayOrder(3, 2, 2)));
+            due("1 0 1", told(x.dayOrder(2, 3, 0), x.dayOrder(2, 3, 1), x.dayOrder(2, 3, 2)));
             x.leaf(0, 2023, 12);
             x.dayEnd(0, 0);
             x.leaf(0, 2024, 1);
             x.dayAt(1, 0, 1);
-            due("-1 1", x.dayOrder(0, 1, 0) + " " + x.dayOrder(1, 0, 0));
+            due("-1 1", told(x.dayOrder(0, 1, 0), x.dayOrder(1, 0, 0)));
         });
     }
 }

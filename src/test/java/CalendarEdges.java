@@ -26,7 +26,8 @@ final class CalendarEdges extends Edges {
             Call[] wrong = {
                 x -> x.leaf(0, 5, 13), x -> x.leafRound(0, LAST + 1, 5), x -> x.months(4, 5, false),
                 x -> x.years(4, 5, false), x -> x.units(0, 5, 5, false), x -> x.both(0, 1, 100000000, false),
-                x -> x.leafYear(0, LAST + 1), x -> x.leafMonth(0, 13), x -> x.leafWith(0, 3, 2), x -> x.leafOf(0, 1, 13),
+                x -> x.leafYear(0, LAST + 1), x -> x.leafMonth(0, 13), x -> x.leafWith(0, 3, 2),
+                x -> x.leafOf(0, 1, 13),
                 x -> x.leafOfRound(0, 4, 1), x -> x.leafOfDay(0, 4), x -> x.leafLike(0, 4), x -> x.year(0, LAST + 1),
                 x -> x.later(4, 1, false), x -> x.yearUnits(0, 5, 1, false), x -> x.yearWith(0, 1, 0),
                 x -> x.yearOf(0, true, 4), x -> x.yearLike(0, 4), x -> x.feast(0, 1, 32), x -> x.feastRound(0, 1, 0),
@@ -90,9 +91,11 @@ final class CalendarEdges extends Edges {
             due(365, x.year(0, -5));
         });
         leapRule("a multiple of 400", new int[] {-800, -400, 0, 400, 1600, 2000, 999999600, -999999600}, 366);
-        leapRule("or a multiple of 4 and not of 100", new int[] {-96, -8, -4, 4, 8, 96, 104, 2024, 999999996, -999999996}, 366);
+        leapRule("or a multiple of 4 and not of 100",
+            new int[] {-96, -8, -4, 4, 8, 96, 104, 2024, 999999996, -999999996}, 366);
         leapRule("and not of 100", new int[] {-300, -200, -100, 100, 200, 300, 1900, 2100, 999999900, -999999900}, 365);
-        leapRule("A YEAR is LEAP, if", new int[] {-LAST, -399, -401, -3, -2, -1, 1, 2, 3, 399, 401, 2023, 2025, LAST}, 365);
+        leapRule("A YEAR is LEAP, if", new int[] {-LAST, -399, -401, -3, -2, -1, 1, 2, 3, 399, 401, 2023, 2025, LAST},
+            365);
         sentence(0, "A YEAR has 365 DAYS, a LEAP one 366", x -> {
             x.year(0, 2023);
             x.year(1, 2024);
@@ -256,7 +259,7 @@ final class CalendarEdges extends Edges {
         });
         sentence(0, "a YEAR there has its own number", x -> {
             x.year(3, 7);
-            due("0 0 0 7", x.ofYear(0, 0) + " " + x.ofYear(1, 0) + " " + x.ofYear(2, 0) + " " + x.ofYear(3, 0));
+            due("0 0 0 7", told(x.ofYear(0, 0), x.ofYear(1, 0), x.ofYear(2, 0), x.ofYear(3, 0)));
         });
         places(0, "LEAVES 0 to 3", (x, place) -> x.count(place));
         places(0, "YEARS 0 to 3", (x, place) -> x.ofYear(place, 0));
@@ -274,7 +277,8 @@ final class CalendarEdges extends Edges {
             due(30, x.ofLeaf(0, 2));
         });
         sentence(0, "12 times the number of its YEAR, and its MONTH, less 1", x -> {
-            int[][] leaves = {{0, 1}, {0, 2}, {0, 12}, {1, 1}, {-1, 12}, {-1, 1}, {-2, 12}, {1970, 1}, {LAST, 1}, {-LAST, 12}};
+            int[][] leaves = {{0, 1}, {0, 2}, {0, 12}, {1, 1}, {-1, 12}, {-1, 1}, {-2, 12}, {1970, 1}, {LAST, 1},
+                {-LAST, 12}};
             String[] counts = {"0", "1", "11", "12", "-1", "-12", "-13", "23640", "11999999988", "-11999999977"};
             for (int leaf = 0; leaf < leaves.length; leaf++) {
                 x.leaf(0, leaves[leaf][0], leaves[leaf][1]);
@@ -310,10 +314,10 @@ final class CalendarEdges extends Edges {
             x.feast(1, 2, 28);
             x.feast(2, 3, 1);
             for (int year : new int[] {2024, 2000, 0, -4}) {
-                due("true true true", x.isInYear(0, year) + " " + x.isInYear(1, year) + " " + x.isInYear(2, year));
+                due("true true true", told(x.isInYear(0, year), x.isInYear(1, year), x.isInYear(2, year)));
             }
             for (int year : new int[] {2023, 1900, -1, LAST, -LAST}) {
-                due("false true true", x.isInYear(0, year) + " " + x.isInYear(1, year) + " " + x.isInYear(2, year));
+                due("false true true", told(x.isInYear(0, year), x.isInYear(1, year), x.isInYear(2, year)));
             }
         });
         sentence(0, "if it is IN it, otherwise the 28th of the MONTH 2", x -> {
@@ -332,34 +336,34 @@ final class CalendarEdges extends Edges {
         sentence(0, "Of LEAVES the one is ahead of the other one, whose COUNT is less", x -> {
             x.leaf(0, 2023, 12);
             x.leaf(1, 2024, 1);
-            due("-1 1", x.leafOrder(0, 1, 0) + " " + x.leafOrder(1, 0, 0));
+            due("-1 1", told(x.leafOrder(0, 1, 0), x.leafOrder(1, 0, 0)));
         });
         sentence(0, "of YEARS the one whose number is less", x -> {
             x.year(0, -2);
             x.year(1, -1);
-            due("-1 1", x.yearOrder(0, 1, 0) + " " + x.yearOrder(1, 0, 0));
+            due("-1 1", told(x.yearOrder(0, 1, 0), x.yearOrder(1, 0, 0)));
         });
         sentence(0, "of FEASTS the one whose MONTH is less", x -> {
             x.feast(0, 1, 31);
             x.feast(1, 2, 1);
-            due("-1 1", x.feastOrder(0, 1, 0) + " " + x.feastOrder(1, 0, 0));
+            due("-1 1", told(x.feastOrder(0, 1, 0), x.feastOrder(1, 0, 0)));
         });
         sentence(0, "or, with the same MONTH, whose day is", x -> {
             x.feast(0, 2, 28);
             x.feast(1, 2, 29);
-            due("-1 1", x.feastOrder(0, 1, 0) + " " + x.feastOrder(1, 0, 0));
+            due("-1 1", told(x.feastOrder(0, 1, 0), x.feastOrder(1, 0, 0)));
         });
         sentence(0, "of DAYS the one whose NUMBER is less", x -> {
             x.leaf(0, 2023, 12);
             x.dayEnd(0, 0);
             x.leaf(0, 2024, 1);
             x.dayAt(1, 0, 1);
-            due("-1 1", x.dayOrder(0, 1, 0) + " " + x.dayOrder(1, 0, 0));
+            due("-1 1", told(x.dayOrder(0, 1, 0), x.dayOrder(1, 0, 0)));
         });
         sentence(0, "Two are the same, if neither is ahead of the other one", x -> {
-            due("0 0 0 0", x.leafOrder(0, 1, 0) + " " + x.yearOrder(0, 1, 0) + " " + x.feastOrder(0, 1, 0) + " "
-                    + x.dayOrder(0, 1, 0));
-            due("true true true", x.isLeaf(0, 0, 1) + " " + x.isYear(0, 1, 1) + " " + x.isFeast(0, 2, 1));
+            due("0 0 0 0",
+                told(x.leafOrder(0, 1, 0), x.yearOrder(0, 1, 0), x.feastOrder(0, 1, 0), x.dayOrder(0, 1, 0)));
+            due("true true true", told(x.isLeaf(0, 0, 1), x.isYear(0, 1, 1), x.isFeast(0, 2, 1)));
         });
     }
 

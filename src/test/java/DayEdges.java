@@ -14,7 +14,8 @@ final class DayEdges extends Edges {
     }
 
     private static void promise27() {
-        onlyThere(27, "The DAY with that number in the MONTH of a LEAF lies there.", DAY, (x, place) -> x.dayAt(place, 1, 20));
+        onlyThere(27, "The DAY with that number in the MONTH of a LEAF lies there.", DAY,
+            (x, place) -> x.dayAt(place, 1, 20));
         sentence(27, "in the MONTH of a LEAF", none -> {
             int[][] leaves = {{2024, 2}, {-1, 11}, {LAST, 12}, {-LAST, 1}};
             for (int place = 0; place < 4; place++) {
@@ -32,9 +33,9 @@ final class DayEdges extends Edges {
         });
         sentence(27, "Returns its WEEKDAY", x -> {
             x.leaf(0, 2000, 1);
-            due("6 7 1", x.dayAt(0, 0, 1) + " " + x.dayAt(0, 0, 2) + " " + x.dayAt(0, 0, 3));
+            due("6 7 1", told(x.dayAt(0, 0, 1), x.dayAt(0, 0, 2), x.dayAt(0, 0, 3)));
             x.leaf(0, 2024, 2);
-            due("3 4", x.dayAt(0, 0, 28) + " " + x.dayAt(0, 0, 29));
+            due("3 4", told(x.dayAt(0, 0, 28), x.dayAt(0, 0, 29)));
             x.leaf(0, 2024, 3);
             due(5, x.dayAt(0, 0, 1));
             x.leaf(0, 0, 1);
@@ -62,7 +63,8 @@ final class DayEdges extends Edges {
         places(27, "or LEAF", (x, place) -> x.dayAt(0, place, 5));
         bounds(27, "if number is not 1 to 31", 1, 31, (x, number) -> x.dayAt(0, 2, number));
         bounds(27, "if number is not 1 to 31", 1, 31, (x, number) -> x.dayAt(1, 0, number));
-        placeFirst(27, x -> x.dayAt(4, 0, 32), x -> x.dayAt(0, 4, 0), x -> x.dayAt(4, 0, 30), x -> x.dayAt(-1, -1, LEAST));
+        placeFirst(27, x -> x.dayAt(4, 0, 32), x -> x.dayAt(0, 4, 0), x -> x.dayAt(4, 0, 30),
+            x -> x.dayAt(-1, -1, LEAST));
     }
 
     private static void promise28() {
@@ -125,11 +127,11 @@ final class DayEdges extends Edges {
         });
         sentence(29, "Returns its MONTH", x -> {
             x.year(0, 2023);
-            due("1 2 2 3", x.dayInYear(0, 0, 31) + " " + x.dayInYear(0, 0, 32) + " " + x.dayInYear(0, 0, 59) + " "
-                + x.dayInYear(0, 0, 60));
+            due("1 2 2 3",
+                told(x.dayInYear(0, 0, 31), x.dayInYear(0, 0, 32), x.dayInYear(0, 0, 59), x.dayInYear(0, 0, 60)));
             x.year(0, 2024);
-            due("2 3 12 12", x.dayInYear(0, 0, 60) + " " + x.dayInYear(0, 0, 61) + " " + x.dayInYear(0, 0, 336) + " "
-                + x.dayInYear(0, 0, 366));
+            due("2 3 12 12",
+                told(x.dayInYear(0, 0, 60), x.dayInYear(0, 0, 61), x.dayInYear(0, 0, 336), x.dayInYear(0, 0, 366)));
         });
         sentence(29, "-9 if the YEAR has no such PLACE.", none -> {
             for (int year : new int[] {2023, 1900, 2100, -1, -100, 1, LAST, -LAST}) {
@@ -155,7 +157,8 @@ final class DayEdges extends Edges {
     }
 
     private static void promise30() {
-        onlyThere(30, "The DAY of a FEAST in the YEAR with that number lies there.", DAY, (x, place) -> x.dayOfFeast(place, 1, 5));
+        onlyThere(30, "The DAY of a FEAST in the YEAR with that number lies there.", DAY,
+            (x, place) -> x.dayOfFeast(place, 1, 5));
         sentence(30, "of a FEAST", none -> {
             int[][] days = {{2, 29}, {4, 30}, {12, 31}, {2, 1}};
             for (int place = 0; place < 4; place++) {
@@ -169,7 +172,8 @@ final class DayEdges extends Edges {
         });
         sentence(30, "`number`: the number of the YEAR", x -> {
             x.feast(0, 2, 29);
-            int[][] years = {{-LAST, 28}, {-100, 28}, {-4, 29}, {-1, 28}, {0, 29}, {1, 28}, {1900, 28}, {2000, 29}, {LAST, 28}};
+            int[][] years = {{-LAST, 28}, {-100, 28}, {-4, 29}, {-1, 28}, {0, 29}, {1, 28}, {1900, 28}, {2000, 29},
+                {LAST, 28}};
             for (int[] year : years) {
                 x.dayOfFeast(0, 0, year[0]);
                 dayIs(x, 0, year[0], 2, year[1]);
@@ -183,10 +187,10 @@ final class DayEdges extends Edges {
         sentence(30, "Returns its WEEKDAY.", x -> {
             x.feast(1, 2, 29);
             x.feast(2, 12, 31);
-            due("2 4", x.dayOfFeast(0, 1, 2023) + " " + x.dayOfFeast(0, 1, 2024));
-            due("5 1 4 3", x.dayOfFeast(0, 2, LAST) + " " + x.dayOfFeast(0, 0, -LAST) + " " + x.dayOfFeast(0, 0, 1970) + " "
-                + x.dayOfFeast(0, 2, 1969));
-            due("7 1", x.dayOfFeast(0, 2, 2023) + " " + x.dayOfFeast(0, 0, 2024));
+            due("2 4", told(x.dayOfFeast(0, 1, 2023), x.dayOfFeast(0, 1, 2024)));
+            due("5 1", told(x.dayOfFeast(0, 2, LAST), x.dayOfFeast(0, 0, -LAST)));
+            due("4 3", told(x.dayOfFeast(0, 0, 1970), x.dayOfFeast(0, 2, 1969)));
+            due("7 1", told(x.dayOfFeast(0, 2, 2023), x.dayOfFeast(0, 0, 2024)));
         });
         places(30, "if there is no such DAY", (x, place) -> x.dayOfFeast(place, 0, 5));
         places(30, "or FEAST", (x, place) -> x.dayOfFeast(0, place, 5));
@@ -197,7 +201,8 @@ final class DayEdges extends Edges {
     }
 
     private static void promise31() {
-        onlyThere(31, "The DAY of a FEAST in a YEAR of the shelf lies there.", DAY, (x, place) -> x.dayOfYear(place, 1, 1));
+        onlyThere(31, "The DAY of a FEAST in a YEAR of the shelf lies there.", DAY,
+            (x, place) -> x.dayOfYear(place, 1, 1));
         sentence(31, "of a FEAST in a YEAR of the shelf", none -> {
             int[] years = {1900, 2000, -LAST, LAST};
             int[][] days = {{2, 29}, {4, 30}, {12, 31}, {2, 1}};
@@ -213,10 +218,10 @@ final class DayEdges extends Edges {
         });
         sentence(31, "Returns its number in the MONTH.", none -> {
             Monthyears x = mixed();
-            due("28 29 28 28", x.dayOfYear(0, 0, 0) + " " + x.dayOfYear(0, 1, 0) + " " + x.dayOfYear(0, 2, 0) + " "
-                + x.dayOfYear(0, 3, 0));
-            due("30 31 1 31", x.dayOfYear(0, 0, 1) + " " + x.dayOfYear(0, 3, 2) + " " + x.dayOfYear(0, 2, 3) + " "
-                + x.dayOfYear(0, 2, 2));
+            due("28 29 28 28",
+                told(x.dayOfYear(0, 0, 0), x.dayOfYear(0, 1, 0), x.dayOfYear(0, 2, 0), x.dayOfYear(0, 3, 0)));
+            due("30 31 1 31",
+                told(x.dayOfYear(0, 0, 1), x.dayOfYear(0, 3, 2), x.dayOfYear(0, 2, 3), x.dayOfYear(0, 2, 2)));
         });
         places(31, "if there is no such DAY", (x, place) -> x.dayOfYear(place, 0, 0));
         places(31, "YEAR or FEAST", (x, place) -> x.dayOfYear(0, place, 0));

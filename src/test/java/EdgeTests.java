@@ -30,20 +30,21 @@ public final class EdgeTests {
     }
 
     private static List<String> wordsOf(int promise) {
-        return Edges.told().getOrDefault(promise, List.of());
+        return Edges.words().getOrDefault(promise, List.of());
     }
 
     private static void testsQuote(int promise, String part) {
         for (String words : wordsOf(promise)) {
-            Checks.due("promise " + promise + ": whether the document says '" + words + "'", true, part.contains(words));
+            Checks.due("promise " + promise + ": whether the document says '" + words + "'", true,
+                part.contains(words));
         }
     }
 
     /** Each line has a test, but for the signature and the places, of which the Throws lines speak. */
     private static void isQuoted(int promise, String part) {
         for (String line : part.split("\n")) {
-            boolean isSentence = !line.isEmpty() && !line.startsWith("#") && !line.startsWith("`") && !line.startsWith("--")
-                && !line.startsWith("==") && !line.startsWith("The constructor and the methods follow")
+            boolean isSentence = !line.isEmpty() && !line.startsWith("#") && !line.startsWith("`")
+                && !line.startsWith("--") && !line.startsWith("==") && !line.startsWith("The constructor and the methods follow")
                 && !line.contains("`: the place of a");
             boolean isTested = wordsOf(promise).stream().anyMatch(line::contains);
             Checks.due("promise " + promise + ": a test of '" + line + "'", true, !isSentence || isTested);

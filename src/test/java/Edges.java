@@ -19,7 +19,7 @@ abstract class Edges {
     static final int FEAST = 2;
     static final int DAY = 3;
 
-    private static final Map<Integer, List<String>> TOLD = new LinkedHashMap<>();
+    private static final Map<Integer, List<String>> WORDS = new LinkedHashMap<>();
     private static String current = "";
 
     Edges() {
@@ -37,14 +37,14 @@ abstract class Edges {
         Object on(Monthyears x, int value);
     }
 
-    /** The words of each test that was told, by the promise. */
-    static Map<Integer, List<String>> told() {
-        return TOLD;
+    /** The words of all tests up to now, by the promise. */
+    static Map<Integer, List<String>> words() {
+        return WORDS;
     }
 
     /** A test of these words on a new shelf. */
     static void sentence(int promise, String words, Test test) {
-        TOLD.computeIfAbsent(promise, none -> new ArrayList<>()).add(words);
+        WORDS.computeIfAbsent(promise, none -> new ArrayList<>()).add(words);
         current = "promise " + promise + ", '" + words + "'";
         Object thrown = Checks.answer(() -> {
             test.on(new Monthyears());
@@ -55,6 +55,15 @@ abstract class Edges {
 
     static void due(Object want, Object got) {
         Checks.due(current, want, got);
+    }
+
+    /** Several answers as one, with blanks between them. */
+    static String told(Object... answers) {
+        StringBuilder all = new StringBuilder();
+        for (Object answer : answers) {
+            all.append(all.length() == 0 ? "" : " ").append(answer);
+        }
+        return all.toString();
     }
 
     // ---- the shelf as a whole
@@ -96,15 +105,15 @@ abstract class Edges {
     }
 
     static void leafIs(Monthyears x, int leaf, int year, int month) {
-        due(year + " " + month, x.ofLeaf(leaf, 0) + " " + x.ofLeaf(leaf, 1));
+        due(told(year, month), told(x.ofLeaf(leaf, 0), x.ofLeaf(leaf, 1)));
     }
 
     static void feastIs(Monthyears x, int feast, int month, int day) {
-        due(month + " " + day, x.ofFeast(feast, 0) + " " + x.ofFeast(feast, 1));
+        due(told(month, day), told(x.ofFeast(feast, 0), x.ofFeast(feast, 1)));
     }
 
     static void dayIs(Monthyears x, int day, int year, int month, int number) {
-        due(year + " " + month + " " + number, x.ofDay(day, 0) + " " + x.ofDay(day, 1) + " " + x.ofDay(day, 2));
+        due(told(year, month, number), told(x.ofDay(day, 0), x.ofDay(day, 1), x.ofDay(day, 2)));
     }
 
     // ---- calls that change nothing
@@ -133,8 +142,7 @@ abstract class Edges {
         sentence(promise, words, none -> {
             for (int place = 0; place < 4; place++) {
                 int at = place;
-                Monthyears x = mixed();
-                still(x, call.on(x, at), y -> call.on(y, at));
+                still(mixed(), call.on(mixed(), at), x -> call.on(x, at));
             }
         });
     }
@@ -188,7 +196,8 @@ abstract class Edges {
                 call.on(x, place);
                 String[] after = lying(x);
                 int thing = 4 * kind + place;
-                Checks.due(current + ": whether it lies on the place " + place, false, before[thing].equals(after[thing]));
+                Checks.due(current + ": whether it lies on the place " + place, false,
+                    before[thing].equals(after[thing]));
                 after[thing] = before[thing];
                 Checks.due(current + ": all else", Arrays.asList(before), Arrays.asList(after));
             }

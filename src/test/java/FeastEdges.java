@@ -29,8 +29,8 @@ final class FeastEdges extends Edges {
             }
         });
         sentence(21, "Returns 1 if it is IN each YEAR, otherwise 0", x -> {
-            due("1 1 0 1", x.feast(0, 2, 1) + " " + x.feast(0, 2, 28) + " " + x.feast(0, 2, 29) + " " + x.feast(0, 3, 1));
-            due("1 1 1 1", x.feast(0, 1, 29) + " " + x.feast(0, 3, 29) + " " + x.feast(0, 1, 31) + " " + x.feast(0, 4, 30));
+            due("1 1 0 1", told(x.feast(0, 2, 1), x.feast(0, 2, 28), x.feast(0, 2, 29), x.feast(0, 3, 1)));
+            due("1 1 1 1", told(x.feast(0, 1, 29), x.feast(0, 3, 29), x.feast(0, 1, 31), x.feast(0, 4, 30)));
         });
         sentence(21, "-9 if that MONTH has no such day even in a LEAP YEAR", none -> {
             for (int month = 1; month <= 12; month++) {
@@ -67,8 +67,8 @@ final class FeastEdges extends Edges {
             }
         });
         sentence(22, "`months`: how many months, any number", x -> {
-            due("8 7", x.feastRound(0, MOST, 31) + " " + x.feastRound(0, MOST - 1, 31));
-            due("5 6", x.feastRound(0, LEAST, 31) + " " + x.feastRound(0, LEAST + 1, 30));
+            due("8 7", told(x.feastRound(0, MOST, 31), x.feastRound(0, MOST - 1, 31)));
+            due("5 6", told(x.feastRound(0, LEAST, 31), x.feastRound(0, LEAST + 1, 30)));
             feastIs(x, 0, 6, 30);
             refused(x, y -> y.feastRound(0, LEAST + 1, 31));
         });
@@ -78,9 +78,10 @@ final class FeastEdges extends Edges {
                 feastIs(x, 0, 12, day);
             }
         });
-        sentence(22, "Returns its MONTH", x ->
-            due("2 2 2 12", x.feastRound(0, 1, 1) + " " + x.feastRound(0, 1, 29) + " " + x.feastRound(0, -11, 28) + " "
-                + x.feastRound(0, -1, 31)));
+        sentence(22, "Returns its MONTH", x -> {
+            due("2 2", told(x.feastRound(0, 1, 1), x.feastRound(0, 1, 29)));
+            due("2 12", told(x.feastRound(0, -11, 28), x.feastRound(0, -1, 31)));
+        });
         sentence(22, "-9 if that MONTH has no such day even in a LEAP YEAR", none -> {
             for (int month = 1; month <= 12; month++) {
                 int behind = month - 13;
@@ -135,8 +136,8 @@ final class FeastEdges extends Edges {
             });
             sentence(23, "Returns its day then.", x -> {
                 x.feast(0, 3, 31);
-                due("30 29 29", x.feastMonth(0, 11, isField) + " " + x.feastMonth(0, 2, isField) + " "
-                    + x.feastMonth(0, 2, isField));
+                due("30 29 29",
+                    told(x.feastMonth(0, 11, isField), x.feastMonth(0, 2, isField), x.feastMonth(0, 2, isField)));
             });
             places(23, "if there is no such FEAST", (x, place) -> x.feastMonth(place, 5, isField));
             bounds(23, "if month is not 1 to 12", 1, 12, (x, month) -> x.feastMonth(0, month, isField));
@@ -158,7 +159,8 @@ final class FeastEdges extends Edges {
 
     private static void promise24() {
         for (boolean isField : BOTH) {
-            onlyThere(24, "The FEAST is moved to another day of its MONTH.", FEAST, (x, place) -> x.feastDay(place, 3, isField));
+            onlyThere(24, "The FEAST is moved to another day of its MONTH.", FEAST,
+                (x, place) -> x.feastDay(place, 3, isField));
             sentence(24, "another day of its MONTH", none -> {
                 for (int month = 1; month <= 12; month++) {
                     Monthyears x = new Monthyears();
@@ -171,7 +173,8 @@ final class FeastEdges extends Edges {
             });
             sentence(24, "Returns its day before", x -> {
                 x.feast(0, 2, 28);
-                due("28 29 29", x.feastDay(0, 29, isField) + " " + x.feastDay(0, 29, isField) + " " + x.feastDay(0, 1, isField));
+                due("28 29 29",
+                    told(x.feastDay(0, 29, isField), x.feastDay(0, 29, isField), x.feastDay(0, 1, isField)));
             });
             sentence(24, "-9 if the MONTH has no such day even in a LEAP YEAR", none -> {
                 for (int month = 1; month <= 12; month++) {
@@ -211,11 +214,11 @@ final class FeastEdges extends Edges {
             (x, place) -> x.feastOf(place, 1));
         sentence(25, "of the MONTH and the number in it of a DAY", x -> {
             for (int month = 1; month <= 12; month++) {
-                x.leaf(0, 2023, month);
-                int last = x.dayEnd(0, 0);
+                x.leaf(2, 2023, month);
+                int last = x.dayEnd(0, 2);
                 x.feastOf(3, 0);
                 feastIs(x, 3, month, last);
-                x.dayAt(0, 0, 1);
+                x.dayAt(0, 2, 1);
                 x.feastOf(3, 0);
                 feastIs(x, 3, month, 1);
             }
@@ -267,7 +270,7 @@ final class FeastEdges extends Edges {
             due(1, x.feastLike(0, 3));
             x.feast(0, 2, 28);
             x.feast(3, 2, 29);
-            due("0 1 1", x.feastLike(0, 3) + " " + x.feastLike(0, 3) + " " + x.feastLike(3, 0));
+            due("0 1 1", told(x.feastLike(0, 3), x.feastLike(0, 3), x.feastLike(3, 0)));
             x.feast(0, 3, 29);
             due(0, x.feastLike(0, 3));
             x.feast(0, 1, 31);

@@ -47,7 +47,7 @@ final class HouseEdges extends Edges {
                 for (int thing : things) {
                     isKnown = isKnown || thing == what;
                 }
-                due(what + " " + isKnown, what + " " + x.knows(kind, what));
+                due(told(what, isKnown), told(what, x.knows(kind, what)));
             }
         });
     }
@@ -56,16 +56,20 @@ final class HouseEdges extends Edges {
         String leaf = "a LEAF knows its MONTH, its COUNT, the RANK, the number and the SIDE of its YEAR, "
             + "and the UNITS 0 to 4 and SIDES as steps";
         knownBy(0, leaf, 1, 2, 3, 4, 5, 7, 8, 9, 10, 11, 12);
-        knownBy(1, "a YEAR knows its RANK, number and SIDE, and the UNITS 1 to 4 and SIDES as steps", 3, 4, 5, 8, 9, 10, 11, 12);
+        knownBy(1, "a YEAR knows its RANK, number and SIDE, and the UNITS 1 to 4 and SIDES as steps", 3, 4, 5, 8, 9,
+            10, 11, 12);
         knownBy(2, "a FEAST knows its day and its MONTH, and no steps", 0, 1);
-        String[] words = {"0 a day of the MONTH", "1 the MONTH", "2 the COUNT", "3 the RANK", "4 the number of the YEAR",
+        String[] words = {"0 a day of the MONTH", "1 the MONTH", "2 the COUNT", "3 the RANK",
+            "4 the number of the YEAR",
             "5 the SIDE", "6 DAYS", "7 to 11 the UNITS 0 to 4", "7 to 11 the UNITS 0 to 4", "7 to 11 the UNITS 0 to 4",
             "7 to 11 the UNITS 0 to 4", "7 to 11 the UNITS 0 to 4", "12 SIDES"};
         String[] kinds = {"--F", "L-F", "L--", "LY-", "LY-", "LY-", "---", "L--", "LY-", "LY-", "LY-", "LY-", "LY-"};
         for (int what = 0; what <= 12; what++) {
             int asked = what;
-            sentence(51, words[what], x -> due(kinds[asked], (x.knows(0, asked) ? "L" : "-") + (x.knows(1, asked) ? "Y" : "-")
-                + (x.knows(2, asked) ? "F" : "-")));
+            sentence(51, words[what], x -> {
+                String leafAndYear = (x.knows(0, asked) ? "L" : "-") + (x.knows(1, asked) ? "Y" : "-");
+                due(kinds[asked], leafAndYear + (x.knows(2, asked) ? "F" : "-"));
+            });
         }
         String[] kindWords = {"0 a LEAF", "1 a YEAR", "2 a FEAST"};
         for (int kind = 0; kind <= 2; kind++) {
@@ -76,7 +80,8 @@ final class HouseEdges extends Edges {
         }
         bounds(51, "if kind is not 0 to 2", 0, 2, (x, kind) -> x.knows(kind, 0));
         bounds(51, "if kind is not 0 to 2", 0, 2, (x, kind) -> x.knows(kind, 12));
-        asksAlone(51, "Returns whether it is told just above that it knows this.", (x, place) -> x.knows(place % 3, 3 * place));
+        asksAlone(51, "Returns whether it is told just above that it knows this.",
+            (x, place) -> x.knows(place % 3, 3 * place));
     }
 
     private static void promises52And53() {
@@ -114,7 +119,7 @@ final class HouseEdges extends Edges {
                 x.leaf(place, place % 2 == 0 ? 1900 : LAST, place % 2 == 0 ? 2 : 12);
             }
             due(0, x.house(0));
-            due("4 4 0", x.house(1) + " " + x.house(2) + " " + x.house(3));
+            due("4 4 0", told(x.house(1), x.house(2), x.house(3)));
         });
         sentence(54, "1 how many YEARS are LEAP", x -> {
             for (int place = 0; place < 4; place++) {
@@ -122,7 +127,7 @@ final class HouseEdges extends Edges {
                 x.year(place, place % 2 == 0 ? -100 : -LAST);
             }
             due(0, x.house(1));
-            due("4 4 0", x.house(0) + " " + x.house(2) + " " + x.house(3));
+            due("4 4 0", told(x.house(0), x.house(2), x.house(3)));
         });
         sentence(54, "2 how many FEASTS are IN each YEAR", x -> {
             for (int place = 0; place < 4; place++) {
@@ -161,8 +166,8 @@ final class HouseEdges extends Edges {
             int asked = what;
             asksAlone(54, "Tells something of the shelf.", (x, place) -> x.house(asked));
         }
-        sentence(54, "Returns that.", x -> due("4 4 4 0 0", x.house(0) + " " + x.house(1) + " " + x.house(2) + " " + x.house(3)
-            + " " + x.house(4)));
+        sentence(54, "Returns that.",
+            x -> due("4 4 4 0 0", told(x.house(0), x.house(1), x.house(2), x.house(3), x.house(4))));
         bounds(54, "if what is not 0 to 4", 0, 4, (x, what) -> x.house(what));
     }
 
@@ -184,7 +189,8 @@ final class HouseEdges extends Edges {
     }
 
     private static void promise55() {
-        int[][] leaves = {{0, 1}, {0, 12}, {-1, 12}, {1, 1}, {2024, 2}, {2023, 2}, {1900, 2}, {LAST, 12}, {LAST, 11}, {-LAST, 1}};
+        int[][] leaves = {{0, 1}, {0, 12}, {-1, 12}, {1, 1}, {2024, 2}, {2023, 2}, {1900, 2}, {LAST, 12}, {LAST, 11},
+            {-LAST, 1}};
         int[] years = {0, 1, -1, 1600, 1900, 2000, 2024, LAST, -LAST, 999999600, 999999599};
         int[][] feasts = {{2, 29}, {2, 28}, {3, 1}, {1, 31}, {12, 31}, {1, 1}, {4, 30}};
         soundWith("Returns whether all of this is so", leaves, years, feasts);
@@ -194,30 +200,39 @@ final class HouseEdges extends Edges {
         });
     }
 
-    /** The theorem holds of all that can lie there, so that a part of it can only be tested where it is nearest to fail. */
+    /** The theorem holds of all that can lie there: each part is tested where it is nearest to fail. */
     private static void promise55Parts() {
         int[][] anyLeaf = {{0, 1}};
         int[] anyYear = {0};
         int[][] anyFeast = {{1, 1}};
-        soundWith("as its COUNT tells is the same", new int[][] {{0, 1}, {0, 2}, {-1, 12}, {-LAST, 1}, {LAST, 12}}, anyYear,
+        soundWith("as its COUNT tells is the same", new int[][] {{0, 1}, {0, 2}, {-1, 12}, {-LAST, 1}, {LAST, 12}},
+            anyYear,
             anyFeast);
         soundWith("it has the day LENGTH, and neither that behind it nor the day 0",
             new int[][] {{2023, 2}, {2024, 2}, {1900, 2}, {2000, 2}, {2023, 4}, {2023, 12}}, anyYear, anyFeast);
-        soundWith("if it is not the last one, the next one is behind it", new int[][] {{LAST, 12}, {LAST, 11}, {LAST - 1, 12}},
+        soundWith("if it is not the last one, the next one is behind it",
+            new int[][] {{LAST, 12}, {LAST, 11}, {LAST - 1, 12}},
             anyYear, anyFeast);
-        soundWith("a month back from there it lies again", new int[][] {{0, 12}, {-1, 12}, {-LAST, 1}, {LAST, 11}}, anyYear,
+        soundWith("a month back from there it lies again", new int[][] {{0, 12}, {-1, 12}, {-LAST, 1}, {LAST, 11}},
+            anyYear,
             anyFeast);
         soundWith("has a NUMBER that is by 1 greater than that of its own last DAY",
-            new int[][] {{2023, 12}, {2024, 2}, {2023, 2}, {-1, 12}, {1969, 12}, {-LAST, 1}, {LAST, 11}}, anyYear, anyFeast);
-        soundWith("it is LEAP as its number tells", anyLeaf, new int[] {2000, 1900, 2024, 2023, 0, -4, -100, -1}, anyFeast);
-        soundWith("it has as many DAYS as its LEAVES have together", anyLeaf, new int[] {-LAST, LAST, 2024, 2023}, anyFeast);
+            new int[][] {{2023, 12}, {2024, 2}, {2023, 2}, {-1, 12}, {1969, 12}, {-LAST, 1}, {LAST, 11}}, anyYear,
+            anyFeast);
+        soundWith("it is LEAP as its number tells", anyLeaf, new int[] {2000, 1900, 2024, 2023, 0, -4, -100, -1},
+            anyFeast);
+        soundWith("it has as many DAYS as its LEAVES have together", anyLeaf, new int[] {-LAST, LAST, 2024, 2023},
+            anyFeast);
         soundWith("if its number is below 999999600, the 400 YEARS from it on have 146097 DAYS", anyLeaf,
             new int[] {999999598, 999999599, 999999600, 999999601, LAST, -LAST, -400, -399}, anyFeast);
-        soundWith("of each two LEAVES", new int[][] {{2023, 12}, {2024, 1}, {2024, 12}, {2023, 1}, {2023, 12}}, anyYear, anyFeast);
+        soundWith("of each two LEAVES", new int[][] {{2023, 12}, {2024, 1}, {2024, 12}, {2023, 1}, {2023, 12}},
+            anyYear, anyFeast);
         soundWith("and each two YEARS", anyLeaf, new int[] {-1, 0, 1, LAST, -LAST}, anyFeast);
-        soundWith("it is told the same by both whether the one is IN the other one", anyLeaf, new int[] {2023, 2024, 1900, 2000},
+        soundWith("it is told the same by both whether the one is IN the other one", anyLeaf,
+            new int[] {2023, 2024, 1900, 2000},
             new int[][] {{2, 29}, {2, 28}, {3, 1}, {1, 29}});
-        soundWith("with its day, or with 28", anyLeaf, new int[] {2023, 2024}, new int[][] {{2, 29}, {2, 28}, {2, 27}, {12, 29}});
+        soundWith("with its day, or with 28", anyLeaf, new int[] {2023, 2024},
+            new int[][] {{2, 29}, {2, 28}, {2, 27}, {12, 29}});
         soundWith("they stand to each other as their DAYS of the YEAR 2000 do", anyLeaf, anyYear,
             new int[][] {{2, 28}, {2, 29}, {3, 1}, {1, 31}, {2, 1}, {12, 31}});
         soundWith("the same have the same code", new int[][] {{5, 5}, {5, 5}, {5, 6}}, new int[] {5, 5, 6},
@@ -310,6 +325,33 @@ final class HouseEdges extends Edges {
             x.leaf(2, -1, 12);
             due(checksum(x), x.digest());
         });
+        sentence(56, "LEAF by LEAF, other LEAF by LEAF (itself, too) leafOrder() of 0", none -> {
+            Monthyears x = new Monthyears();
+            x.leaf(1, 5, 5);
+            Monthyears y = new Monthyears();
+            y.leaf(2, 5, 5);
+            due("true true false",
+                told(x.digest() == checksum(x), y.digest() == checksum(y), x.digest() == y.digest()));
+        });
+        sentence(56, "YEAR by YEAR, FEAST by FEAST hasFeast() (false; 1 or 0)", x -> {
+            x.year(0, 2023);
+            x.feast(3, 2, 29);
+            due(checksum(x), x.digest());
+            x.feast(0, 2, 29);
+            x.year(3, 2023);
+            due(checksum(x), x.digest());
+        });
+        sentence(56, "house() of 0 to 4", x -> {
+            for (int knock = 0; knock < 2; knock++) {
+                x.knock();
+                due(checksum(x), x.digest());
+            }
+        });
+        sentence(56, "Returns d.", x -> {
+            long atFirst = checksum(x);
+            x.knock();
+            due("true false", told(x.digest() == checksum(x), x.digest() == atFirst));
+        });
         sentence(56, "Computes a checksum.", none -> {
             Monthyears x = mixed();
             long first = x.digest();
@@ -318,9 +360,11 @@ final class HouseEdges extends Edges {
             x.knock();
             due(false, first == x.digest());
         });
+        String[] words = {"LEAF by LEAF ofLeaf() of 0 to 7, count()", "YEAR by YEAR ofYear() of 0 to 4",
+            "FEAST by FEAST ofFeast() of 0 to 4", "DAY by DAY ofDay() of 0 to 5, number()"};
         for (int kind = 0; kind < 4; kind++) {
             int of = kind;
-            sentence(56, "Returns d.", none -> {
+            sentence(56, words[kind], none -> {
                 for (int place = 0; place < 4; place++) {
                     Monthyears x = mixed();
                     long before = x.digest();

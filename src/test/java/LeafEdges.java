@@ -43,8 +43,8 @@ final class LeafEdges extends Edges {
             }
         });
         sentence(2, "Returns its LENGTH.", x -> {
-            due("29 28 29 28", x.leaf(0, 2024, 2) + " " + x.leaf(0, 2023, 2) + " " + x.leaf(0, 0, 2) + " " + x.leaf(0, -1, 2));
-            due("28 29 30 31", x.leaf(0, 1900, 2) + " " + x.leaf(0, 2000, 2) + " " + x.leaf(0, 0, 11) + " " + x.leaf(0, LAST, 12));
+            due("29 28 29 28", told(x.leaf(0, 2024, 2), x.leaf(0, 2023, 2), x.leaf(0, 0, 2), x.leaf(0, -1, 2)));
+            due("28 29 30 31", told(x.leaf(0, 1900, 2), x.leaf(0, 2000, 2), x.leaf(0, 0, 11), x.leaf(0, LAST, 12)));
         });
         places(2, "if there is no such LEAF", (x, place) -> x.leaf(place, 2023, 5));
         bounds(2, "if year is not -999999999 to 999999999", -LAST, LAST, (x, year) -> x.leaf(0, year, 5));
@@ -76,19 +76,20 @@ final class LeafEdges extends Edges {
             leafIs(x, 0, LAST, 1);
         });
         sentence(3, "`months`: how many months, any number", x -> {
-            due("8 7", x.leafRound(0, 5, MOST) + " " + x.leafRound(0, 5, MOST - 1));
-            due("5 6", x.leafRound(0, 5, LEAST) + " " + x.leafRound(0, 5, LEAST + 1));
+            due("8 7", told(x.leafRound(0, 5, MOST), x.leafRound(0, 5, MOST - 1)));
+            due("5 6", told(x.leafRound(0, 5, LEAST), x.leafRound(0, 5, LEAST + 1)));
             leafIs(x, 0, 5, 6);
         });
         sentence(3, "Returns its MONTH.", x ->
-            due("2 2 12", x.leafRound(0, 2024, 1) + " " + x.leafRound(0, 2023, 1) + " " + x.leafRound(0, 2023, -1)));
+            due("2 2 12", told(x.leafRound(0, 2024, 1), x.leafRound(0, 2023, 1), x.leafRound(0, 2023, -1))));
         places(3, "if there is no such LEAF", (x, place) -> x.leafRound(place, 2023, 5));
         bounds(3, "if year is not -999999999 to 999999999", -LAST, LAST, (x, year) -> x.leafRound(0, year, 5));
         placeFirst(3, x -> x.leafRound(4, LAST + 1, 5), x -> x.leafRound(LEAST, -LAST - 1, LEAST));
     }
 
     private static void promise4() {
-        onlyThere(4, "The LEAF so many months on from it lies there.", LEAF, (x, place) -> x.months(place, 1, place == 2));
+        onlyThere(4, "The LEAF so many months on from it lies there.", LEAF,
+            (x, place) -> x.months(place, 1, place == 2));
         sentence(4, "so many months on from it", x -> {
             x.leaf(0, 2023, 12);
             x.months(0, 1, false);
@@ -134,8 +135,8 @@ final class LeafEdges extends Edges {
         });
         sentence(4, "Returns its LENGTH then", x -> {
             x.leaf(0, 2024, 1);
-            due("29 31 29", x.months(0, 1, false) + " " + x.months(0, 1, false) + " " + x.months(0, 1, true));
-            due("28 28 30", x.months(0, 12, false) + " " + x.months(0, 0, true) + " " + x.months(0, 2, false));
+            due("29 31 29", told(x.months(0, 1, false), x.months(0, 1, false), x.months(0, 1, true)));
+            due("28 28 30", told(x.months(0, 12, false), x.months(0, 0, true), x.months(0, 2, false)));
         });
         sentence(4, "-9 if there is none, beyond the first", x -> {
             x.leaf(0, -LAST, 2);
@@ -207,8 +208,8 @@ final class LeafEdges extends Edges {
         });
         sentence(5, "Returns its LENGTH then", x -> {
             x.leaf(0, 2024, 2);
-            due("28 29 29", x.years(0, 1, false) + " " + x.years(0, 1, true) + " " + x.years(0, 0, false));
-            due("28 28 29", x.years(0, 76, false) + " " + x.years(0, 200, true) + " " + x.years(0, -100, true));
+            due("28 29 29", told(x.years(0, 1, false), x.years(0, 1, true), x.years(0, 0, false)));
+            due("28 28 29", told(x.years(0, 76, false), x.years(0, 200, true), x.years(0, -100, true)));
         });
         sentence(5, "-9 if there is no such YEAR", x -> {
             x.leaf(0, LAST, 1);
@@ -228,7 +229,8 @@ final class LeafEdges extends Edges {
 
     private static void promise6() {
         int[] yearsOf = {0, 1, 10, 100, 1000};
-        onlyThere(6, "The LEAF so many UNITS on from it lies there.", LEAF, (x, place) -> x.units(place, 2, 1, place == 2));
+        onlyThere(6, "The LEAF so many UNITS on from it lies there.", LEAF,
+            (x, place) -> x.units(place, 2, 1, place == 2));
         sentence(6, "so many UNITS on from it", x -> {
             for (int unit = 1; unit <= 4; unit++) {
                 x.leaf(0, 0, 12);
@@ -275,9 +277,9 @@ final class LeafEdges extends Edges {
         });
         sentence(6, "Returns its LENGTH then", x -> {
             x.leaf(0, 2000, 2);
-            due("28 28 28", x.units(0, 1, 1, false) + " " + x.units(0, 2, 1, false) + " " + x.units(0, 3, 1, true));
+            due("28 28 28", told(x.units(0, 1, 1, false), x.units(0, 2, 1, false), x.units(0, 3, 1, true)));
             x.leaf(0, 2000, 2);
-            due("29 31 29", x.units(0, 4, 2, true) + " " + x.units(0, 0, 1, true) + " " + x.units(0, 0, 1, false));
+            due("29 31 29", told(x.units(0, 4, 2, true), x.units(0, 0, 1, true), x.units(0, 0, 1, false)));
         });
         sentence(6, "`unit`: the UNIT", x -> {
             String[] counts = {"-1", "-12", "-120", "-1200", "-12000"};
@@ -393,7 +395,7 @@ final class LeafEdges extends Edges {
         });
         sentence(7, "Returns its LENGTH then", x -> {
             x.leaf(0, 2024, 1);
-            due("28 29 30", x.both(0, 1, 1, false) + " " + x.both(0, 1, 0, true) + " " + x.both(0, -1, -3, false));
+            due("28 29 30", told(x.both(0, 1, 1, false), x.both(0, 1, 0, true), x.both(0, -1, -3, false)));
         });
         sentence(7, "-9 if there is none, beyond the first", x -> {
             x.leaf(0, -LAST, 1);
@@ -448,7 +450,7 @@ final class LeafEdges extends Edges {
             due(28, x.ofLeaf(0, 2));
         });
         sentence(8, "Returns the number of its YEAR before.", x -> {
-            due("0 5 5", x.leafYear(0, 5) + " " + x.leafYear(0, 5) + " " + x.leafYear(0, -LAST));
+            due("0 5 5", told(x.leafYear(0, 5), x.leafYear(0, 5), x.leafYear(0, -LAST)));
             due(-LAST, x.leafYear(0, LAST));
             due(LAST, x.leafYear(0, -1));
             due(-1, x.leafYear(0, 0));
@@ -476,7 +478,7 @@ final class LeafEdges extends Edges {
             }
         });
         sentence(9, "Returns its MONTH before.", x -> {
-            due("1 12 12 2", x.leafMonth(0, 12) + " " + x.leafMonth(0, 12) + " " + x.leafMonth(0, 2) + " " + x.leafMonth(0, 1));
+            due("1 12 12 2", told(x.leafMonth(0, 12), x.leafMonth(0, 12), x.leafMonth(0, 2), x.leafMonth(0, 1)));
             x.leaf(0, -LAST, 11);
             due(11, x.leafMonth(0, 1));
         });
@@ -577,10 +579,10 @@ final class LeafEdges extends Edges {
         });
         sentence(10, "Returns its LENGTH then", x -> {
             x.leaf(0, 2023, 1);
-            due("28 29 28 29", x.leafWith(0, 0, 2) + " " + x.leafWith(0, 1, 2024) + " " + x.leafWith(0, 3, 0) + " "
-                + x.leafWith(0, 2, 1));
-            due("28 29 31 30", x.leafWith(0, 2, 2) + " " + x.leafWith(0, 4, 1) + " " + x.leafWith(0, 4, 0) + " "
-                + x.leafWith(0, 4, -2));
+            due("28 29 28 29",
+                told(x.leafWith(0, 0, 2), x.leafWith(0, 1, 2024), x.leafWith(0, 3, 0), x.leafWith(0, 2, 1)));
+            due("28 29 31 30",
+                told(x.leafWith(0, 2, 2), x.leafWith(0, 4, 1), x.leafWith(0, 4, 0), x.leafWith(0, 4, -2)));
         });
         sentence(10, "-9 if there is no YEAR with that RANK on that SIDE", x -> {
             x.leaf(0, -LAST, 1);
@@ -604,7 +606,8 @@ final class LeafEdges extends Edges {
     }
 
     private static void promise11() {
-        onlyThere(11, "The LEAF of that MONTH of a YEAR of the shelf lies there.", LEAF, (x, place) -> x.leafOf(place, 1, 5));
+        onlyThere(11, "The LEAF of that MONTH of a YEAR of the shelf lies there.", LEAF,
+            (x, place) -> x.leafOf(place, 1, 5));
         sentence(11, "of a YEAR of the shelf", none -> {
             int[] years = {1900, 2000, -LAST, LAST};
             for (int place = 0; place < 4; place++) {
@@ -624,7 +627,7 @@ final class LeafEdges extends Edges {
         });
         sentence(11, "Returns its LENGTH.", none -> {
             Monthyears x = mixed();
-            due("28 29 28 31", x.leafOf(0, 0, 2) + " " + x.leafOf(0, 1, 2) + " " + x.leafOf(0, 3, 2) + " " + x.leafOf(0, 3, 12));
+            due("28 29 28 31", told(x.leafOf(0, 0, 2), x.leafOf(0, 1, 2), x.leafOf(0, 3, 2), x.leafOf(0, 3, 12)));
         });
         places(11, "if there is no such LEAF", (x, place) -> x.leafOf(place, 0, 5));
         places(11, "or YEAR", (x, place) -> x.leafOf(0, place, 5));
@@ -652,11 +655,11 @@ final class LeafEdges extends Edges {
             }
         });
         sentence(12, "`months`: how many months, any number", x -> {
-            due("8 7", x.leafOfRound(0, 0, MOST) + " " + x.leafOfRound(0, 0, MOST - 1));
-            due("5 6", x.leafOfRound(0, 0, LEAST) + " " + x.leafOfRound(0, 0, LEAST + 1));
+            due("8 7", told(x.leafOfRound(0, 0, MOST), x.leafOfRound(0, 0, MOST - 1)));
+            due("5 6", told(x.leafOfRound(0, 0, LEAST), x.leafOfRound(0, 0, LEAST + 1)));
             leafIs(x, 0, 0, 6);
         });
-        sentence(12, "Returns its MONTH.", x -> due("2 12", x.leafOfRound(0, 0, 1) + " " + x.leafOfRound(0, 0, -1)));
+        sentence(12, "Returns its MONTH.", x -> due("2 12", told(x.leafOfRound(0, 0, 1), x.leafOfRound(0, 0, -1))));
         places(12, "if there is no such LEAF", (x, place) -> x.leafOfRound(place, 0, 5));
         places(12, "or YEAR", (x, place) -> x.leafOfRound(0, place, 5));
     }
@@ -668,13 +671,15 @@ final class LeafEdges extends Edges {
             int[][] leaves = {{2024, 2}, {-1, 11}, {LAST, 12}, {-LAST, 1}};
             for (int place = 0; place < 4; place++) {
                 Monthyears x = mixed();
+                x.leaf(place, 5, 5);
                 x.leafOfDay(2 - place / 2, place);
                 leafIs(x, 2 - place / 2, leaves[place][0], leaves[place][1]);
+                leafIs(x, place, 5, 5);
             }
         });
         sentence(13, "Returns its LENGTH.", none -> {
             Monthyears x = mixed();
-            due("29 30 31 31", x.leafOfDay(0, 0) + " " + x.leafOfDay(0, 1) + " " + x.leafOfDay(0, 2) + " " + x.leafOfDay(0, 3));
+            due("29 30 31 31", told(x.leafOfDay(0, 0), x.leafOfDay(0, 1), x.leafOfDay(0, 2), x.leafOfDay(0, 3)));
             x.leaf(0, 2023, 2);
             x.dayAt(0, 0, 1);
             due(28, x.leafOfDay(1, 0));
@@ -707,7 +712,7 @@ final class LeafEdges extends Edges {
             due(1, x.leafLike(0, 3));
             x.leaf(0, LAST, 12);
             x.leaf(3, LAST, 11);
-            due("0 1 1", x.leafLike(0, 3) + " " + x.leafLike(0, 3) + " " + x.leafLike(3, 0));
+            due("0 1 1", told(x.leafLike(0, 3), x.leafLike(0, 3), x.leafLike(3, 0)));
             x.leaf(0, -LAST, 1);
             x.leaf(3, LAST, 1);
             due(0, x.leafLike(3, 0));

@@ -27,9 +27,9 @@ final class YearEdges extends Edges {
             }
         });
         sentence(15, "Returns how many DAYS it has.", x -> {
-            due("366 365 366 365", x.year(0, 2024) + " " + x.year(0, 2023) + " " + x.year(0, 2000) + " " + x.year(0, 1900));
-            due("366 365 365 366", x.year(0, 0) + " " + x.year(0, -1) + " " + x.year(0, -100) + " " + x.year(0, -400));
-            due("365 365", x.year(0, LAST) + " " + x.year(0, -LAST));
+            due("366 365 366 365", told(x.year(0, 2024), x.year(0, 2023), x.year(0, 2000), x.year(0, 1900)));
+            due("366 365 365 366", told(x.year(0, 0), x.year(0, -1), x.year(0, -100), x.year(0, -400)));
+            due("365 365", told(x.year(0, LAST), x.year(0, -LAST)));
         });
         places(15, "if there is no such YEAR", (x, place) -> x.year(place, 5));
         bounds(15, "if number is not -999999999 to 999999999", -LAST, LAST, (x, number) -> x.year(0, number));
@@ -76,8 +76,8 @@ final class YearEdges extends Edges {
         });
         sentence(16, "Returns how many DAYS it has then", x -> {
             x.year(0, 2024);
-            due("365 366 366", x.later(0, 1, false) + " " + x.later(0, 1, true) + " " + x.later(0, 0, false));
-            due("366 365", x.later(0, -24, false) + " " + x.later(0, 100, true));
+            due("365 366 366", told(x.later(0, 1, false), x.later(0, 1, true), x.later(0, 0, false)));
+            due("366 365", told(x.later(0, -24, false), x.later(0, 100, true)));
         });
         sentence(16, "-9 if there is none", x -> {
             x.year(0, LAST);
@@ -97,7 +97,8 @@ final class YearEdges extends Edges {
     }
 
     private static void promise17() {
-        onlyThere(17, "The YEAR so many UNITS on from it lies there.", YEAR, (x, place) -> x.yearUnits(place, 2, 1, place == 3));
+        onlyThere(17, "The YEAR so many UNITS on from it lies there.", YEAR,
+            (x, place) -> x.yearUnits(place, 2, 1, place == 3));
         sentence(17, "so many UNITS on from it", x -> {
             for (int unit = 1; unit <= 4; unit++) {
                 x.year(0, 0);
@@ -135,9 +136,9 @@ final class YearEdges extends Edges {
         });
         sentence(17, "Returns how many DAYS it has then", x -> {
             x.year(0, 2000);
-            due("365 366 365", x.yearUnits(0, 1, 1, false) + " " + x.yearUnits(0, 1, 1, true) + " "
-                + x.yearUnits(0, 3, 1, true));
-            due("366 365", x.yearUnits(0, 3, -5, true) + " " + x.yearUnits(0, 2, 1, false));
+            due("365 366 365",
+                told(x.yearUnits(0, 1, 1, false), x.yearUnits(0, 1, 1, true), x.yearUnits(0, 3, 1, true)));
+            due("366 365", told(x.yearUnits(0, 3, -5, true), x.yearUnits(0, 2, 1, false)));
         });
         int[] mostFromFirst = {0, 1999999998, 199999999, 19999999, 1999999};
         sentence(17, "-9 if there is none", none -> {
@@ -213,8 +214,8 @@ final class YearEdges extends Edges {
             }
         });
         sentence(18, "Returns how many DAYS it has then", x -> {
-            due("365 366 365 366", x.yearWith(0, 0, 5) + " " + x.yearWith(0, 2, 0) + " " + x.yearWith(0, 1, 4) + " "
-                + x.yearWith(0, 1, 1));
+            due("365 366 365 366",
+                told(x.yearWith(0, 0, 5), x.yearWith(0, 2, 0), x.yearWith(0, 1, 4), x.yearWith(0, 1, 1)));
         });
         sentence(18, "-9 if there is no YEAR with that RANK on that SIDE.", x -> {
             x.year(0, -LAST);
@@ -238,9 +239,11 @@ final class YearEdges extends Edges {
     }
 
     private static void promise19() {
-        onlyThere(19, "The YEAR of a LEAF, or of a DAY, lies there.", YEAR, (x, place) -> x.yearOf(place, place < 2, 1));
+        onlyThere(19, "The YEAR of a LEAF, or of a DAY, lies there.", YEAR,
+            (x, place) -> x.yearOf(place, place < 2, 1));
         sentence(19, "The YEAR of a LEAF", x -> {
-            int[][] leaves = {{-LAST, 1}, {-LAST, 12}, {-1, 1}, {-1, 12}, {0, 1}, {0, 12}, {1, 1}, {LAST, 1}, {LAST, 12}};
+            int[][] leaves = {{-LAST, 1}, {-LAST, 12}, {-1, 1}, {-1, 12}, {0, 1}, {0, 12}, {1, 1}, {LAST, 1},
+                {LAST, 12}};
             for (int[] leaf : leaves) {
                 x.leaf(2, leaf[0], leaf[1]);
                 x.yearOf(1, false, 2);
@@ -248,7 +251,8 @@ final class YearEdges extends Edges {
             }
         });
         sentence(19, "or of a DAY", x -> {
-            int[][] months = {{-LAST, 1}, {-LAST, 12}, {-1, 1}, {-1, 12}, {0, 1}, {0, 12}, {1, 1}, {LAST, 1}, {LAST, 12}};
+            int[][] months = {{-LAST, 1}, {-LAST, 12}, {-1, 1}, {-1, 12}, {0, 1}, {0, 12}, {1, 1}, {LAST, 1},
+                {LAST, 12}};
             for (int[] month : months) {
                 x.leaf(0, month[0], month[1]);
                 x.dayEnd(2, 0);
@@ -279,7 +283,7 @@ final class YearEdges extends Edges {
         sentence(19, "Returns how many DAYS it has.", none -> {
             Monthyears x = mixed();
             for (boolean isDay : BOTH) {
-                due("366 365 365", x.yearOf(0, isDay, 0) + " " + x.yearOf(0, isDay, 1) + " " + x.yearOf(0, isDay, 2));
+                due("366 365 365", told(x.yearOf(0, isDay, 0), x.yearOf(0, isDay, 1), x.yearOf(0, isDay, 2)));
             }
         });
         for (boolean isDay : BOTH) {
@@ -310,7 +314,7 @@ final class YearEdges extends Edges {
             due(1, x.yearLike(0, 3));
             x.year(0, LAST);
             x.year(3, LAST - 1);
-            due("0 1 1", x.yearLike(0, 3) + " " + x.yearLike(0, 3) + " " + x.yearLike(3, 0));
+            due("0 1 1", told(x.yearLike(0, 3), x.yearLike(0, 3), x.yearLike(3, 0)));
             x.year(0, 5);
             x.year(3, -5);
             due(0, x.yearLike(3, 0));
