@@ -43,11 +43,14 @@ public final class EdgeTests {
     /** Each line has a test, but for the signature and the places, of which the Throws lines speak. */
     private static void isQuoted(int promise, String part) {
         for (String line : part.split("\n")) {
-            boolean isSentence = !line.isEmpty() && !line.startsWith("#") && !line.startsWith("`")
-                && !line.startsWith("--") && !line.startsWith("==") && !line.startsWith("The constructor and the methods follow")
-                && !line.contains("`: the place of a");
             boolean isTested = wordsOf(promise).stream().anyMatch(line::contains);
-            Checks.due("promise " + promise + ": a test of '" + line + "'", true, !isSentence || isTested);
+            Checks.due("promise " + promise + ": a test of '" + line + "'", true, !isSentence(line) || isTested);
         }
+    }
+
+    private static boolean isSentence(String line) {
+        boolean isHead = line.startsWith("#") || line.startsWith("`") || line.startsWith("--") || line.startsWith("==");
+        boolean isOfPlace = line.contains("`: the place of a");
+        return !line.isEmpty() && !isHead && !isOfPlace && !line.startsWith("The constructor and the methods follow");
     }
 }

@@ -1,3 +1,4 @@
+import java.lang.reflect.Field;
 import java.math.BigInteger;
 import java.util.ArrayList;
 import java.util.List;
@@ -14,6 +15,7 @@ final class HouseEdges extends Edges {
         promise54();
         promise55();
         promise55Parts();
+        promise55Broken();
         promise56();
     }
 
@@ -237,6 +239,49 @@ final class HouseEdges extends Edges {
             new int[][] {{2, 28}, {2, 29}, {3, 1}, {1, 31}, {2, 1}, {12, 31}});
         soundWith("the same have the same code", new int[][] {{5, 5}, {5, 5}, {5, 6}}, new int[] {5, 5, 6},
             new int[][] {{2, 29}, {2, 29}, {2, 28}});
+    }
+
+    /** No call lays down what is not sound: only by the fields themselves is it seen that the answer is worked out. */
+    private static void lay(Monthyears x, String field, int place, long value) {
+        try {
+            Field row = Monthyears.class.getDeclaredField(field);
+            row.setAccessible(true);
+            if (row.get(x) instanceof long[] counts) {
+                counts[place] = value;
+            } else {
+                ((int[]) row.get(x))[place] = (int) value;
+            }
+        } catch (ReflectiveOperationException thrown) {
+            throw new IllegalStateException("the state is held otherwise: " + thrown);
+        }
+    }
+
+    private static void promise55Broken() {
+        sentence(55, "of each FEAST and each YEAR: it is told the same by both", none -> {
+            for (int place = 0; place < 4; place++) {
+                Monthyears x = new Monthyears();
+                lay(x, "feastMonths", place, 2);
+                lay(x, "feastDays", place, 30);
+                due(false, x.isSound());
+                lay(x, "feastDays", place, 29);
+                due(true, x.isSound());
+            }
+        });
+        sentence(55, "of each LEAF: the LEAF so many months behind the one with the COUNT 0", none -> {
+            for (int place = 0; place < 4; place++) {
+                Monthyears x = new Monthyears();
+                lay(x, "leafCounts", place, Long.MAX_VALUE);
+                due(false, x.isSound());
+                lay(x, "leafCounts", place, 11999999999L);
+                due(true, x.isSound());
+            }
+        });
+        sentence(56, "1 if isSound(), otherwise 0", x -> {
+            due(checksum(x), x.digest());
+            lay(x, "feastMonths", 3, 2);
+            lay(x, "feastDays", 3, 30);
+            due("false true", told(x.isSound(), x.digest() == checksum(x)));
+        });
     }
 
     private static void addText(List<Long> all, String text) {
