@@ -617,7 +617,8 @@ public final class Monthyears {
     }
 
     private int weekdayAt(int day) {
-        return Calendar.weekdayOf(dayNumberAt(day));
+        // Not by dayNumberAt: from digest the chain of calls would be the longest that LANGUAGE.md lets.
+        return Calendar.weekdayOf(Calendar.dayNumberOf(dayLeaves[day], dayNumbers[day]));
     }
 
     private boolean isLastOfMonth(int day) {

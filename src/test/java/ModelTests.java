@@ -49,7 +49,8 @@ public final class ModelTests {
             Method mine = Monthyears.class.getMethod(asked.getName(), asked.getParameterTypes());
             Object got = answer(mine, shelf, values);
             if (!want.equals(got)) {
-                Checks.due("run " + run + ", call " + call + ": " + asked.getName() + Arrays.toString(values), want, got);
+                String told = "run " + run + ", call " + call + ": " + asked.getName() + Arrays.toString(values);
+                Checks.due(told, want, got);
                 return 1;
             }
         }

@@ -855,7 +855,8 @@ public final class PromiseTests {
 
     private static void promises48To50() {
         fresh();
-        int[][] days = {{2024, 2, 29, 60, 4, 1}, {2023, 12, 30, 364, 6, 0}, {-1, 12, 31, 365, 5, 1}, {0, 3, 1, 61, 3, 0}};
+        int[][] days = {{2024, 2, 29, 60, 4, 1}, {2023, 12, 30, 364, 6, 0}, {-1, 12, 31, 365, 5, 1},
+            {0, 3, 1, 61, 3, 0}};
         String[] numbers = {"19782", "19721", "-719529", "-719468"};
         for (int day = 0; day < 4; day++) {
             int at = day;
